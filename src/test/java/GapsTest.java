@@ -86,7 +86,7 @@ public final class GapsTest {
         Check.bargain(x, 0, 1, 0, "1=2");
         x.hang(1, 0, 2);
         CHECK.due("4: hangs on what is open", x.answer(0, 0), 0);
-        Check.reword(x, 0, "0=1 1=2".replace(" ", ""));
+        Check.reword(x, 0, "0=11=2");
         CHECK.due("4: hangs on another value", x.answer(0, 0), Check.filling("100000"));
         Check.reword(x, 0, "0=21=2");
         CHECK.due("4: hangs on this value", x.answer(0, 0), Check.filling("220000"));
