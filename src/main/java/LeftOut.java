@@ -14,9 +14,10 @@ public final class LeftOut {
 
     private static final String RULE_LETTERS = "LBM";
     private static final int LAW = 0, BOUND = 1, MEANT = 2;
+    // W, D, C and L; the last one, M, is what is left
     private static final String ORDER_LETTERS = "WDCLM";
-    private static final int SAID = 0, DONE = 1, USUAL = 2, BY_LAW = 3;
-    private static final int CROSSABLE = 1 << DONE | 1 << USUAL | 1 << BY_LAW;
+    private static final int WORDS = 0, BEFORE = 1, CUSTOM = 2, LAWS = 3;
+    private static final int CROSSABLE = 1 << BEFORE | 1 << CUSTOM | 1 << LAWS;
 
     private static final int BY_NOTHING = 0, BY_SAYINGS = 1, BY_BEFORE = 2, BY_CUSTOM = 3;
     private static final int BY_TURNS = 4, BY_RULES = 10;
@@ -383,12 +384,16 @@ public final class LeftOut {
     }
 
     public int moves(int bargain, int order) {
-        int place = step(bargain, order);
-        if (place < 0) {
-            return place == NONE ? 0 : place;
+        if (!canRead(bargain, order)) {
+            return UNKNOWN;
         }
         read(bargain, order);
-        return movedBy(orders[order], place, reading.answer);
+        int answer = reading.answer;
+        int most = 0;
+        for (int i = 0; i + 1 < orders[order].size; i++) {
+            most = Math.max(most, movedBy(orders[order], i, answer));
+        }
+        return most;
     }
 
     // ---- thoughts
@@ -565,7 +570,8 @@ public final class LeftOut {
         for (int i = 0; i < bargainCount; i++) {
             int thought = bargains[i].commonThought(gap);
             if (thought != 0) {
-                read(i, order);
+                reading.take(bargains[i], doings);
+                reading.read(orders[order]);
                 worth += valueAt(reading.answer, gap) == thought ? 1 : 0;
             }
         }
@@ -1183,8 +1189,8 @@ public final class LeftOut {
         private int trade = 0;
         private int crossed = 0;
         private final int[] said = new int[GAPS];
-        private final int[] done = new int[GAPS];
-        private final int[] usual = new int[GAPS];
+        private final int[] before = new int[GAPS];
+        private final int[] custom = new int[GAPS];
 
         private final Fillers[] fillers = new Fillers[GAPS];
         private final int[] now = new int[GAPS];
@@ -1211,8 +1217,8 @@ public final class LeftOut {
             boolean bothKnow = doings.isKnown(bargain.one, trade) && doings.isKnown(bargain.two, trade);
             for (int i = 0; i < GAPS; i++) {
                 said[i] = bargain.sayings.values[i];
-                done[i] = doings.valueBefore(bargain.one, bargain.two, i, terms[TIMES]);
-                usual[i] = bothKnow ? doings.customOf(trade, i, terms) : 0;
+                before[i] = doings.valueBefore(bargain.one, bargain.two, i, terms[TIMES]);
+                custom[i] = bothKnow ? doings.customOf(trade, i, terms) : 0;
             }
         }
 
@@ -1238,16 +1244,16 @@ public final class LeftOut {
                 return;
             }
             switch (letter) {
-                case SAID:
+                case WORDS:
                     planRow(said, BY_SAYINGS);
                     break;
-                case DONE:
-                    planRow(done, BY_BEFORE);
+                case BEFORE:
+                    planRow(before, BY_BEFORE);
                     break;
-                case USUAL:
-                    planRow(usual, BY_CUSTOM);
+                case CUSTOM:
+                    planRow(custom, BY_CUSTOM);
                     break;
-                case BY_LAW:
+                case LAWS:
                     planLawAhead();
                     planRules(LAW);
                     break;
