@@ -136,6 +136,11 @@ public final class GapsTest {
 
     private static void tellAndKnows() {
         LeftOut x = new LeftOut();
+        for (int person = 0; person < 5; person++) {
+            for (int trade = 0; trade < 3; trade++) {
+                CHECK.due("9: none knows any at first", x.knows(person, trade), 0);
+            }
+        }
         CHECK.due("7: at first", x.tell(4, 2, true), 0);
         CHECK.due("7: was told", x.tell(4, 2, true), 1);
         CHECK.due("9: told", x.knows(4, 2), 1);
@@ -232,6 +237,11 @@ public final class GapsTest {
         x.term(1, 5);
         CHECK.due("11: just the least", x.custom(1, 3), 2);
         CHECK.due("11: nothing done", x.custom(2, 3), 0);
+        x.term(1, 1);
+        for (int v = 1; v <= 5; v++) {
+            x.doing(0, 1, 2, v, v, false);
+            CHECK.due("11: any value", x.custom(2, v), v);
+        }
         CHECK.due("11: trade", x.custom(3, 3), LeftOut.UNKNOWN);
         CHECK.due("11: trade", x.custom(-1, 3), LeftOut.UNKNOWN);
         CHECK.due("11: gap", x.custom(0, 6), LeftOut.UNKNOWN);

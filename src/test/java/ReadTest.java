@@ -296,11 +296,16 @@ public final class ReadTest {
             CHECK.due("31: otherwise at " + gap, x.judge(0, 0, answer + place), gap);
             place *= 6;
         }
+        Check.bargain(x, 0, 1, 0, "");
+        CHECK.due("26: another bargain", x.answer(1, 0), 0);
+        CHECK.due("31: of the one asked for", x.judge(0, 0, answer), LeftOut.NONE);
+        CHECK.due("26: another bargain", x.answer(1, 0), 0);
+        CHECK.due("28: of the one asked for", x.reason(0, 0, 0), 1);
         CHECK.due("31: the first of two", x.judge(0, 0, Check.filling("113001")), 1);
         CHECK.due("31: too high", x.judge(0, 0, 46656), LeftOut.BAD);
         CHECK.due("31: the highest", x.judge(0, 0, 46655), 0);
         CHECK.due("31: too low", x.judge(0, 0, -1), LeftOut.BAD);
-        CHECK.due("31: unknown comes first", x.judge(1, 0, -1), LeftOut.UNKNOWN);
+        CHECK.due("31: unknown comes first", x.judge(2, 0, -1), LeftOut.UNKNOWN);
         CHECK.due("31: unknown comes first", x.judge(0, 4, -1), LeftOut.UNKNOWN);
     }
 

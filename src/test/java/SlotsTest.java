@@ -26,6 +26,8 @@ public final class SlotsTest {
         x.tell(3, 0, true);
         CHECK.due("42: how many", x.again(1), 2);
         CHECK.due("42: the doings", x.before(0, 1, 0), 3);
+        CHECK.due("42: in their trade", x.knows(0, 0), 1);
+        CHECK.due("42: in no other trade", x.knows(0, 1), 0);
         CHECK.due("42: who is told", x.tell(4, 2, true), 1);
         CHECK.due("42: who is not told", x.tell(3, 0, false), 0);
         x.doing(0, 1, 0, 0, 4, false);

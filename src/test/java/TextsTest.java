@@ -160,6 +160,11 @@ public final class TextsTest {
         CHECK.due("17: one comes behind", Check.rule(x, "M5=5?1=0@2"), 11);
         CHECK.due("17: the new one", x.ruled(11, 5), 2);
         CHECK.due("17: not the one ahead of it", x.ruled(10, 5), LeftOut.NONE);
+        x.unrule(11);
+        CHECK.due("17: another one comes behind", Check.rule(x, "L0=1"), 11);
+        for (int what = 3; what < 6; what++) {
+            CHECK.due("17: nothing of the one that is gone", x.ruled(11, what), LeftOut.NONE);
+        }
         for (int left = 11; left >= 0; left--) {
             CHECK.due("17: how many are left", x.unrule(0), left);
         }
@@ -234,6 +239,7 @@ public final class TextsTest {
         CHECK.due("21: so many", x.count(4), 8);
         CHECK.due("21: the first stays", x.said(0, 0), 0);
         CHECK.due("21: the last has words", x.said(7, 0), 1);
+        people();
     }
 
     private static void reword() {
@@ -255,6 +261,19 @@ public final class TextsTest {
         CHECK.due("22: no words", Check.reword(x, 0, ""), 0);
         CHECK.due("22: thoughts stay", x.think(0, 0, 0, 0), 4);
         crossed();
+    }
+
+    private static void people() {
+        LeftOut x = new LeftOut();
+        x.gap(0, 5);
+        x.term(0, 1);
+        x.doing(3, 2, 0, 0, 4, false);
+        Check.bargain(x, 2, 3, 1, "");
+        Check.bargain(x, 0, 3, 1, "");
+        Check.bargain(x, 2, 0, 1, "");
+        CHECK.due("21: of these two", x.answer(0, 0), Check.filling("400000"));
+        CHECK.due("21: of another and the one", x.answer(1, 0), 0);
+        CHECK.due("21: of the one and another", x.answer(2, 0), 0);
     }
 
     private static void crossed() {

@@ -9,6 +9,7 @@ public final class ThoughtsTest {
         words();
         wordsByManyOrders();
         wordsOfLikeMany();
+        wordsAtAllGaps();
         wordsThatCannotBe();
         worth();
         worthWithoutLaw();
@@ -139,6 +140,17 @@ public final class ThoughtsTest {
         CHECK.due("38: this one does not bring the others any more", x.words(0, 1), 8);
         both(x, 0, 0, 4);
         CHECK.due("38: two, the least as bits", x.words(0, 1), 1 | 8);
+    }
+
+    private static void wordsAtAllGaps() {
+        LeftOut x = five();
+        Check.bargain(x, 0, 1, 0, "");
+        for (int gap = 0; gap < 6; gap++) {
+            both(x, 0, gap, 1 + gap % 5);
+        }
+        CHECK.due("38: of another bargain", x.words(1, 15), 0);
+        CHECK.due("38: all six", x.words(0, 15), 63);
+        CHECK.due("38: of another bargain", x.words(1, 15), 0);
     }
 
     private static void wordsThatCannotBe() {
