@@ -17,11 +17,16 @@ final class Check {
         due(what, is ? 1 : 0, 1);
     }
 
-    /** THE TEXT becomes these signs. */
+    /** THE TEXT becomes these signs, by as few calls as can be: an object is promised for 512. */
     static void text(LeftOut x, String signs) {
         x.wipe();
-        for (int i = 0; i < signs.length(); i++) {
-            x.write(1, signs.charAt(i));
+        for (int i = 0; i < signs.length(); i += 8) {
+            int n = Math.min(8, signs.length() - i);
+            long v = 0;
+            for (int j = i; j < i + n; j++) {
+                v = v << 8 | signs.charAt(j);
+            }
+            x.write(n, v);
         }
     }
 
@@ -48,6 +53,31 @@ final class Check {
     static int reword(LeftOut x, int bargain, String sayings) {
         text(x, sayings);
         return x.reword(bargain);
+    }
+
+    /** Doings that are all like one another, not objected to. */
+    static void doings(LeftOut x, int n, int a, int b, int trade, int gap, int v) {
+        for (int i = 0; i < n; i++) {
+            x.doing(a, b, trade, gap, v, false);
+        }
+    }
+
+    /** A new object whose gaps all have so many values. */
+    static LeftOut withValues(int k) {
+        LeftOut x = new LeftOut();
+        for (int gap = 0; gap < 6; gap++) {
+            x.gap(gap, k);
+        }
+        return x;
+    }
+
+    /** The filling that has a value at one gap and is open at all others. */
+    static int only(int gap, int v) {
+        int place = v;
+        for (int i = gap; i < 5; i++) {
+            place *= 6;
+        }
+        return place;
     }
 
     /** A filling as a number, from its figures. */

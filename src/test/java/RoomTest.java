@@ -3,7 +3,7 @@ import java.lang.management.ManagementFactory;
 
 /** A new object is small, and its dearest calls make nothing that stays in the room. */
 public final class RoomTest {
-    private static final int CALLS = 400;
+    private static final int CALLS = 360;
 
     public static void main(String[] args) {
         Check check = new Check();

@@ -7,7 +7,7 @@ public final class TextsTest {
         faultOfRules();
         faultOfOrders();
         faultOfSayings();
-        faultOfAnyByte();
+        faultMakesNothing();
         rule();
         unrule();
         ruled();
@@ -118,18 +118,15 @@ public final class TextsTest {
         fault(2, "0=11=12=13=14=15=10", 18);
     }
 
-    private static void faultOfAnyByte() {
+    private static void faultMakesNothing() {
         LeftOut x = new LeftOut();
-        for (int b = 0; b < 256; b++) {
-            x.wipe();
-            x.write(1, b);
-            CHECK.due("15: a rule begins with " + b, x.fault(0), "LBM".indexOf(b) >= 0 ? 1 : 0);
-            CHECK.due("15: an order begins with " + b, x.fault(1), "WDCLM".indexOf(b) >= 0 ? LeftOut.NONE : 0);
-            CHECK.due("15: sayings begin with " + b, x.fault(2), "012345X".indexOf(b) >= 0 ? 1 : 0);
-        }
-        CHECK.due("15: kind", x.fault(3), LeftOut.UNKNOWN);
-        CHECK.due("15: kind", x.fault(-1), LeftOut.UNKNOWN);
-        CHECK.due("15: the text stays", x.count(2), 1);
+        Check.text(x, "L0=1");
+        CHECK.due("15: a rule", x.fault(0), LeftOut.NONE);
+        CHECK.due("15: no order", x.fault(1), 1);
+        CHECK.due("15: no sayings", x.fault(2), 0);
+        CHECK.due("15: no such kind", x.fault(3), LeftOut.UNKNOWN);
+        CHECK.due("15: no such kind", x.fault(-1), LeftOut.UNKNOWN);
+        CHECK.due("15: the text stays", x.count(2), 4);
         CHECK.due("15: nothing is made", x.count(3) + x.count(4), 0);
     }
 
